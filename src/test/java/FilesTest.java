@@ -15,6 +15,7 @@ public final class FilesTest {
         promise11Hold();
         promise12Read();
         promise12CannotBeRead();
+        promise12NoQualityAndNoLeastOne();
         promise13Move();
         promise13Refuses();
         promise13BudgetAndFormat();
@@ -155,6 +156,21 @@ public final class FilesTest {
         CHECK.notNow("read a lost one", () -> vault.read(1));
         vault.law(0, 10, 900, 5);
         CHECK.same("the refused call did not read it", vault.read(0), 1);
+    }
+
+    private static void promise12NoQualityAndNoLeastOne() {
+        FormatVault vault = new FormatVault();
+        vault.converter(0, 1, 500, 0);
+        vault.converter(1, 0, 500, 0);
+        vault.file(0, 1, 0);
+        for (int quality : new int[] {500, 250, 125, 62, 31, 15, 7, 3, 1, 0, 0}) {
+            CHECK.same("move", vault.move(0, 1 - vault.formatOf(0)), quality);
+        }
+        CHECK.same("the least quality is 0 at first", vault.read(0), 0);
+        CHECK.same("of two with nothing left the lower one", vault.haven(0), 0);
+        vault.law(0, 10, 1, 5);
+        CHECK.notNow("read below the least quality 1", () -> vault.read(0));
+        CHECK.same("no haven below it", vault.haven(0), NONE);
     }
 
     private static void promise13Move() {

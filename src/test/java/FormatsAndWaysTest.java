@@ -152,6 +152,8 @@ public final class FormatsAndWaysTest {
         CHECK.notNow("withdraw(0) again", () -> vault.withdraw(0));
         CHECK.same("withdraw(1)", vault.withdraw(1), 0);
         CHECK.same("quality by none", vault.quality(0, 1), NONE);
+        CHECK.same("cost by none", vault.cost(0, 1), NONE);
+        CHECK.same("stepAt by none", vault.stepAt(0, 1, 0), NONE);
         CHECK.same("converter behind withdrawn ones", vault.converter(0, 1, 300, 1), 2);
         CHECK.same("quality by the new one", vault.quality(0, 1), 700);
     }
