@@ -33,6 +33,7 @@ public final class FileEdgesTest {
         promise13NoWay();
         promise13OnlyAKeptOne();
         promise13BelowTheLeastQuality();
+        promise13RoundedDownAtEachStep();
         CHECK.end();
     }
 
@@ -433,5 +434,20 @@ public final class FileEdgesTest {
         CHECK.notNow("but cannot be read", () -> vault.read(0));
         CHECK.same("it has no haven", vault.haven(0), NONE);
         CHECK.same("and can be moved on", vault.move(0, 0), 500);
+    }
+
+    /** From 500 the losses are 499.5 and 498.5; 998 thousandths of 500 would be 499. */
+    private static void promise13RoundedDownAtEachStep() {
+        FormatVault vault = withOneFileOf(0);
+        vault.converter(0, 1, 500, 0);
+        vault.converter(1, 2, 1, 0);
+        vault.converter(2, 3, 1, 0);
+        vault.move(0, 1);
+        CHECK.same("the quality of the way", vault.quality(1, 3), 998);
+        CHECK.same("the quality of the file behind it", vault.move(0, 3), 498);
+        vault.file(0, 1, 0);
+        CHECK.same("from 1000 over all three", vault.move(1, 3), 498);
+        vault.file(1, 1, 0);
+        CHECK.same("from 1000 over two", vault.move(2, 3), 998);
     }
 }

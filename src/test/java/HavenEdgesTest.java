@@ -25,6 +25,7 @@ public final class HavenEdgesTest {
         promise15JustTheLeastQuality();
         promise15ByTheBestWayAlone();
         promise15QualityThatItHas();
+        promise15RoundedDownAtEachStep();
         promise15NothingLeftOfItsQuality();
         promise15HeldOneNeedsAFormatWithoutEnd();
         promise15DoesNotAskTheBudget();
@@ -353,6 +354,26 @@ public final class HavenEdgesTest {
         CHECK.same("both are moved", vault.moveAhead(), 2);
         CHECK.same("500 of 1000", vault.qualityOf(0), 500);
         CHECK.same("250 of 500", vault.qualityOf(1), 250);
+    }
+
+    /** Over 2 it is 499.5 and then 498.5, over 4 it is 499. */
+    private static void promise15RoundedDownAtEachStep() {
+        FormatVault vault = new FormatVault();
+        vault.converter(0, 1, 500, 0);
+        vault.converter(1, 2, 1, 0);
+        vault.converter(2, 3, 1, 0);
+        vault.converter(1, 4, 2, 1);
+        vault.setLast(1, 5);
+        vault.setLast(2, 5);
+        vault.file(1, 1, 0);
+        vault.file(0, 1, 0);
+        vault.move(1, 1);
+        CHECK.same("998 by both, so the cheaper one", vault.haven(0), 3);
+        CHECK.same("498 against 499", vault.haven(1), 4);
+        vault.law(0, 10, 499, 5);
+        CHECK.same("499 is enough", vault.haven(1), 4);
+        vault.withdraw(3);
+        CHECK.same("498 is not", vault.haven(1), NONE);
     }
 
     private static void promise15NothingLeftOfItsQuality() {

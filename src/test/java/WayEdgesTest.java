@@ -1,3 +1,5 @@
+import java.util.List;
+
 /** The boundaries that promises 6 to 9 name. */
 public final class WayEdgesTest {
     private static final int NONE = FormatVault.NONE;
@@ -15,6 +17,7 @@ public final class WayEdgesTest {
         promises6To9RoundsWithoutLossAndCost();
         promises6To9OverFormatsThatEnded();
         promises6To9ChangeWithConverters();
+        promises6To9AsTheNaiveOneAnswers();
         promise6RoundedDownAtEachStep();
         promise6LeastQuality();
         promise6GreaterByOne();
@@ -186,6 +189,41 @@ public final class WayEdgesTest {
         vault.withdraw(2);
         noWay(vault, 0, 2);
         way(vault, 0, 1, 991, 100, 3);
+    }
+
+    /** Small losses and great ones together, so that roundings make many ways alike. */
+    private static void promises6To9AsTheNaiveOneAnswers() {
+        int[] losses = {0, 0, 1, 2, 3, 4, 499, 500};
+        long seed = 11;
+        for (int network = 0; network < 2000; network++) {
+            FormatVault vault = new FormatVault();
+            NaiveVault naive = new NaiveVault();
+            for (int i = 0; i < 14; i++) {
+                seed = seed * 6364136223846793005L + 1442695040888963407L;
+                int chance = (int) (seed >>> 33);
+                NaiveVault.Step step = new NaiveVault.Step();
+                step.number = i;
+                step.from = chance % 5;
+                step.to = (step.from + 1 + chance / 5 % 4) % 5;
+                step.loss = losses[chance / 20 % 8];
+                step.cost = chance / 160 % 3;
+                naive.steps.add(step);
+                vault.converter(step.from, step.to, step.loss, step.cost);
+            }
+            for (int pair = 0; pair < 25; pair++) {
+                asNaive(vault, naive, pair / 5, pair % 5);
+            }
+        }
+    }
+
+    private static void asNaive(FormatVault vault, NaiveVault naive, int from, int to) {
+        List<NaiveVault.Step> best = naive.bestWay(from, to);
+        if (best == null) {
+            noWay(vault, from, to);
+            return;
+        }
+        int[] steps = best.stream().mapToInt(step -> step.number).toArray();
+        way(vault, from, to, NaiveVault.along(best, 1000), NaiveVault.costOf(best), steps);
     }
 
     // ---- promise 6
