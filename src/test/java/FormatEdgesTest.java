@@ -31,6 +31,7 @@ public final class FormatEdgesTest {
         promise4CountsNoneThatStillHasAHaven();
         promise4CountsHeldOnesAndBrokenWays();
         promise4CountsByTheLeastQuality();
+        promise4CountsNoneThatGetsAHaven();
         promise5FirstAndLastLaw();
         promise5LeastAndGreatestYears();
         promise5LeastAndGreatestLeastQuality();
@@ -380,6 +381,31 @@ public final class FormatEdgesTest {
         }
         CHECK.same("899 is below 900, and enough for 899", vault.withdraw(0), 1);
         CHECK.same("899 was enough", vault.withdraw(1), 1);
+    }
+
+    /**
+     * Of 500, 499 and then 498 are left over format 2, but 499 by converter 3. Without the way over
+     * 2, which is the best one of 1000, file 0 gets a haven, and file 1 has none any more.
+     */
+    private static void promise4CountsNoneThatGetsAHaven() {
+        FormatVault vault = new FormatVault();
+        vault.converter(0, 1, 500, 0);
+        vault.converter(1, 2, 1, 0);
+        vault.converter(2, 3, 1, 0);
+        vault.converter(1, 3, 2, 1);
+        vault.converter(2, 4, 0, 0);
+        vault.law(0, 10, 499, 5);
+        vault.setLast(1, 5);
+        vault.setLast(2, 5);
+        vault.file(0, 1, 0);
+        vault.move(0, 1);
+        vault.file(2, 1, 0);
+        vault.withdraw(4);
+        CHECK.same("498 by the best way", vault.haven(0), NONE);
+        CHECK.same("999 of the other file", vault.haven(1), 3);
+        CHECK.same("one has no haven any more", vault.withdraw(2), 1);
+        CHECK.same("499 by the best way that is left", vault.haven(0), 3);
+        CHECK.same("the other one has none", vault.haven(1), NONE);
     }
 
     // ---- promise 5
